@@ -120,7 +120,30 @@ public final class DynamicNeeds {
     }
 
     public int resolve(int action) {
-        return isAction(action) ? resolveFrom(action) : NO_SUCH;
+        if (!isAction(action)) {
+            return NO_SUCH;
+        }
+        ringLength = 0;
+        way[0] = action;
+        int depth = 1;
+        for (int runs = 0; runs < MOST_RUNS_OF_A_RESOLVE && depth < way.length; runs++) {
+            int current = way[depth - 1];
+            int outcome = runOnce(current);
+            if (outcome == WAITS) {
+                // Only a file that is made is waited for, so there is a maker.
+                int maker = files[actions[current].waitsFor].maker;
+                if (tellRing(maker, depth)) {
+                    return IN_A_RING;
+                }
+                way[depth] = maker;
+                depth++;
+            } else if (depth == 1 || outcome == REFUSED || outcome == STOPPED) {
+                return outcome;
+            } else {
+                depth--;
+            }
+        }
+        return STOPPED;
     }
 
     public int ring(int i) {
@@ -347,30 +370,7 @@ public final class DynamicNeeds {
         return ((bits >>> number) & 1) != 0;
     }
 
-    private int resolveFrom(int first) {
-        ringLength = 0;
-        way[0] = first;
-        int depth = 1;
-        for (int runs = 0; runs < MOST_RUNS_OF_A_RESOLVE && depth < way.length; runs++) {
-            int current = way[depth - 1];
-            int outcome = runOnce(current);
-            if (outcome == WAITS) {
-                // Only a file that is made is waited for, so there is a maker.
-                int maker = files[actions[current].waitsFor].maker;
-                if (tellRing(maker, depth)) {
-                    return IN_A_RING;
-                }
-                way[depth] = maker;
-                depth++;
-            } else if (depth == 1 || outcome == REFUSED || outcome == STOPPED) {
-                return outcome;
-            } else {
-                depth--;
-            }
-        }
-        return STOPPED;
-    }
-
+    /** Whether the maker is on the way already, so that the way from it on is a ring. */
     private boolean tellRing(int maker, int depth) {
         for (int i = 0; i < depth; i++) {
             if (way[i] == maker) {

@@ -706,6 +706,7 @@ public final class PromisesTest {
         x.row(refused, READ, 1);
         Check.due("REFUSED", x.run(refused), -1);
         Check.due("nothing of a refused try", x.kept(refused, 0, 0), NONE);
+        promise12Anew();
         DynamicNeeds y = new DynamicNeeds(1);
         int most = y.action(ALL);
         for (int i = 0; i < 12; i++) {
@@ -715,6 +716,24 @@ public final class PromisesTest {
         Check.due("run", y.run(most), 1);
         Check.due("kept(most, 11, 0)", y.kept(most, 11, 0), 11);
         Check.due("kept(most, 12, 0)", y.kept(most, 12, 0), NONE);
+    }
+
+    /** What one try noted leaves no trace in the notes of the next one. */
+    private static void promise12Anew() {
+        DynamicNeeds x = withFiles(2, 4L, 6L, 8L);
+        int a = maker(x, NONE, READ, 0);
+        x.row(a, SKIP, 1);
+        x.row(a, READ, 1);
+        x.row(a, PROBE, 2);
+        Check.due("run", x.run(a), 1);
+        Check.due("the second was READ", x.kept(a, 1, 2), 1);
+        Check.due("change", x.change(0, true, 5L), true);
+        Check.due("run", x.run(a), 1);
+        Check.due("another is the second now", x.kept(a, 1, 0), 2);
+        Check.due("it was probed", x.kept(a, 1, 2), 0);
+        Check.due("no third", x.kept(a, 2, 0), NONE);
+        Check.due("change", x.change(2, true, 9L), true);
+        Check.due("a PROBE looks at no digest", x.fresh(a), true);
     }
 
     private static void promise13() {
@@ -901,8 +920,8 @@ public final class PromisesTest {
     private static void promise18MovedMembers() {
         Check.part("promise 18, moved members");
         long step = 1000003L;
-        // Both trees have 4 members; the second one's are the first one's in another order, as
-        // xor with the step swaps 0 with 1.
+        // Both trees have 2 members at least, and xor with the step swaps the first two: they move,
+        // but their digests stay.
         long first = 0L;
         while (Math.floorMod(first, 5L) < 2 || Math.floorMod(first ^ step, 5L) < 2) {
             first++;

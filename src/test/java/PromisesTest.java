@@ -1,12 +1,5 @@
 /** At least one run of calls for each promise: ordinary inputs, the document's edges, wrong inputs. */
-public final class PromisesTest {
-    private static final int NONE = DynamicNeeds.NONE;
-    private static final int READ = 0;
-    private static final int PROBE = 1;
-    private static final int SKIP = 2;
-    private static final int ALL = -1;
-    /** READ of one file of digest d makes a file of digest d + 217. */
-    private static final long SUM_OFFSET = 31L * 7L;
+public final class PromisesTest extends Scene {
     private static final int[] NO_NUMBERS = {-1, 24, 25, Integer.MIN_VALUE, Integer.MAX_VALUE};
 
     public static void main(String[] args) {
@@ -42,27 +35,6 @@ public final class PromisesTest {
         promise18MovedMembers();
         promise19();
         Check.end();
-    }
-
-    /** A new object with one file of each digest. */
-    private static DynamicNeeds withFiles(int tries, long... digests) {
-        DynamicNeeds x = new DynamicNeeds(tries);
-        for (int i = 0; i < digests.length; i++) {
-            Check.due("file", x.file(digests[i]), i);
-        }
-        return x;
-    }
-
-    /** A new action that makes a file (or none) and has one row (or none, kind NONE). */
-    private static int maker(DynamicNeeds x, int makes, int kind, int which) {
-        int action = x.action(ALL);
-        if (makes != NONE) {
-            Check.due("makes", x.makes(action, makes), true);
-        }
-        if (kind != NONE) {
-            Check.due("row", x.row(action, kind, which), true);
-        }
-        return action;
     }
 
     private static void promise1Tries() {
@@ -825,21 +797,6 @@ public final class PromisesTest {
         for (int what = 0; what < 3; what++) {
             Check.due("counted(" + action + ", " + what + ")", x.counted(action, what), due[1 + what]);
         }
-    }
-
-    /** The file 1 of digest wanted, made by the action 0 out of the file 0. */
-    private static DynamicNeeds withTree(long wanted) {
-        DynamicNeeds x = withFiles(2, wanted - SUM_OFFSET, 0L, 9L);
-        maker(x, 1, READ, 0);
-        Check.due("run", x.run(0), 1);
-        Check.due("digest", x.digest(1), wanted);
-        return x;
-    }
-
-    private static void reshape(DynamicNeeds x, long wanted) {
-        Check.due("change", x.change(0, true, wanted - SUM_OFFSET), true);
-        Check.due("run", x.run(0), 1);
-        Check.due("digest", x.digest(1), wanted);
     }
 
     private static void promise16() {

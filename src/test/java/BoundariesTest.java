@@ -16,6 +16,7 @@ public final class BoundariesTest extends Scene {
     private static void promises1To4() {
         Check.sentence("1: No files", BoundariesTest::noFilesAtFirst);
         Check.sentence("1: no actions", BoundariesTest::noActionsAtFirst);
+        Check.sentence("1: a new object has nothing of another", BoundariesTest::nothingOfAnother);
         Check.sentence("1: so many TRIES each", BoundariesTest::triesEach);
         Check.sentence("1: TRIES below 1: 1", () -> triesOf(1, 0, -1, -2, -9, Integer.MIN_VALUE));
         Check.sentence("1: TRIES above 9: 9", () -> triesOf(9, 10, 11, 265, Integer.MAX_VALUE));
@@ -186,6 +187,18 @@ public final class BoundariesTest extends Scene {
         Check.due("counted", x.counted(0, 0), NONE);
         Check.due("digest", x.digest(0), 3L);
         Check.due("the first action", x.action(ALL), 0);
+    }
+
+    private static void nothingOfAnother() {
+        String before = lookAt(new DynamicNeeds(3));
+        DynamicNeeds other = aBitOfAll();
+        DynamicNeeds x = new DynamicNeeds(3);
+        Check.same("nothing is there", lookAt(x), before);
+        String others = lookAt(other);
+        Check.due("the first file", x.file(77L), 0);
+        Check.due("the first action", x.action(0), 0);
+        Check.due("the first mapping", x.mapping(0, 9L), 0);
+        Check.same("the other stays", lookAt(other), others);
     }
 
     private static void triesOf(int due, int... asked) {
@@ -532,6 +545,12 @@ public final class BoundariesTest extends Scene {
             Check.due("a 13th", x.row(a, SKIP, 1), false);
         }
         Check.same("nothing changes", look(x, 2, 1, 0), before);
+        long sum = x.digest(1);
+        x.change(0, false, 4L);
+        Check.due("run", x.run(a), kind == READ ? -3 : 1);
+        x.change(0, true, 4L);
+        Check.due("the same rows again", x.run(a), 1);
+        Check.due("the same sum again", x.digest(1), sum);
         int other = maker(x, NONE, kind, which);
         Check.due("another has rows of its own", x.run(other), 1);
     }
@@ -1150,12 +1169,19 @@ public final class BoundariesTest extends Scene {
     // Promise 18
 
     private static void mapNoneSuch() {
-        DynamicNeeds x = withTree(4L);
-        Check.due("mapping", x.mapping(1, 5L), 0);
+        // The file 0 is made here: what isn't there must not be taken for a mapping of that.
+        DynamicNeeds x = withFiles(1, 0L, 5L - SUM_OFFSET - 1L);
+        maker(x, 0, READ, 1);
+        Check.due("run", x.run(0), 1);
+        Check.due("members", x.members(0), 4);
+        for (int number : wrongNumbers(0)) {
+            Check.due("map(" + number + ") of none", x.map(number), NONE);
+        }
+        Check.due("mapping", x.mapping(0, 5L), 0);
         for (int number : wrongNumbers(1)) {
             Check.due("map(" + number + ")", x.map(number), NONE);
         }
-        Check.due("mapping", x.mapping(1, 5L), 1);
+        Check.due("mapping", x.mapping(0, 5L), 1);
         Check.due("none was mapped", x.map(1), 4);
     }
 

@@ -63,6 +63,7 @@ public final class TermsTest extends Scene {
         Check.sentence("it WAITS: the TRY ends", TermsTest::waitsForTheFirst);
         Check.sentence("a FILE that none MAKES isn't waited for", TermsTest::noWaitForSources);
         Check.sentence("noted, once each", TermsTest::notedOnce);
+        Check.sentence("noted: by this TRY, not by one before", TermsTest::notedByThisTry);
         Check.sentence("a READ behind a PROBE notes the DIGEST, too", TermsTest::readBehindProbe);
         Check.sentence("a PROBE behind a READ takes nothing back", TermsTest::probeBehindRead);
         Check.sentence("(READ alone) its DIGEST", TermsTest::probeNotesNoDigest);
@@ -81,6 +82,8 @@ public final class TermsTest extends Scene {
         Check.sentence("MISSING: the FILE that it MAKES isn't there", TermsTest::missingTakesAway);
         Check.sentence("Else what was KEPT before goes: REFUSED", TermsTest::refusedForgets);
         Check.sentence("Else what was KEPT before goes: WAITS", TermsTest::waitsForgets);
+        Check.sentence("Else the FILE that it MAKES stays: REFUSED", TermsTest::refusedLeavesItsFile);
+        Check.sentence("Else the FILE that it MAKES stays: WAITS, STOPPED", TermsTest::waitsLeavesItsFile);
     }
 
     private static void freshness() {
@@ -553,6 +556,22 @@ public final class TermsTest extends Scene {
         keeps(x, a, 1, 1, 1, 0, 1, 1);
     }
 
+    private static void notedByThisTry() {
+        DynamicNeeds x = withFiles(1, 4L, 6L, 8L);
+        int a = reader(x, ALL, READ, 0, SKIP, 1, READ, 1, PROBE, 2);
+        Check.due("even", x.run(a), 1);
+        keeps(x, a, 0, 1, 1, 1, 1, 1, 2, 1, 0);
+        x.change(0, true, 5L);
+        Check.due("odd", x.run(a), 1);
+        keeps(x, a, 0, 1, 1, 2, 1, 0);
+        x.change(1, true, 7L);
+        x.change(2, true, 9L);
+        Check.due("what it probes has no digest of a READ before", x.fresh(a), true);
+        x.change(0, false, 5L);
+        Check.due("missing", x.run(a), -3);
+        keeps(x, a, 0, 0, 1);
+    }
+
     private static void readBehindProbe() {
         DynamicNeeds x = withFiles(1, 10L, 20L);
         int a = reader(x, ALL, PROBE, 0, PROBE, 1, READ, 0);
@@ -727,6 +746,40 @@ public final class TermsTest extends Scene {
         Check.due("as it was, but not kept", x.fresh(a), false);
         Check.due("a try", x.run(a), 1);
         Check.due("none reused", x.counted(a, 0), 0);
+    }
+
+    private static void refusedLeavesItsFile() {
+        DynamicNeeds x = withFiles(1, 1L, 2L, 0L);
+        int a = reader(x, 1, READ, 0, SKIP, 1, READ, 1);
+        Check.due("makes", x.makes(a, 2), true);
+        Check.due("odd", x.run(a), 1);
+        x.change(0, true, 2L);
+        Check.due("even", x.run(a), -1);
+        Check.due("there as it was", x.digest(2), SUM_OFFSET + 1L);
+        x.change(0, false, 2L);
+        Check.due("MISSING", x.run(a), -3);
+        x.change(0, true, 2L);
+        Check.due("even", x.run(a), -1);
+        Check.due("not there, as it was", x.digest(2), 0L);
+    }
+
+    private static void waitsLeavesItsFile() {
+        DynamicNeeds x = withTree(4L);
+        int a = maker(x, 2, READ, 1);
+        Check.due("run", x.run(a), 1);
+        x.change(0, true, 1L);
+        for (int outcome : new int[] {0, 0, -2, 0}) {
+            Check.due("run", x.run(a), outcome);
+            Check.due("there as it was", x.digest(2), SUM_OFFSET + 4L);
+        }
+        x.change(0, false, 1L);
+        Check.due("MISSING", x.run(0), -3);
+        Check.due("MISSING", x.run(a), -3);
+        x.change(0, true, 1L);
+        for (int outcome : new int[] {0, 0, -2, 0}) {
+            Check.due("run", x.run(a), outcome);
+            Check.due("not there, as it was", x.digest(2), 0L);
+        }
     }
 
     // FRESH

@@ -2,6 +2,8 @@ import java.lang.reflect.Constructor;
 import java.lang.reflect.Field;
 import java.lang.reflect.Method;
 import java.lang.reflect.Modifier;
+import java.util.ArrayList;
+import java.util.List;
 import java.util.Set;
 import java.util.TreeSet;
 
@@ -49,6 +51,16 @@ public final class FaceTest {
         Check.due("final", Modifier.isFinal(DynamicNeeds.class.getModifiers()), true);
         Check.due("NONE", DynamicNeeds.NONE, -1);
         Check.end();
+    }
+
+    static List<Method> publicMethods() {
+        List<Method> methods = new ArrayList<>();
+        for (Method m : DynamicNeeds.class.getDeclaredMethods()) {
+            if (Modifier.isPublic(m.getModifiers())) {
+                methods.add(m);
+            }
+        }
+        return methods;
     }
 
     private static void note(Set<String> seen, int modifiers, String member) {

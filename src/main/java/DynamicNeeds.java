@@ -129,9 +129,8 @@ public final class DynamicNeeds {
         for (int runs = 0; runs < MOST_RUNS_OF_A_RESOLVE && depth < way.length; runs++) {
             int current = way[depth - 1];
             int outcome = runOnce(current);
-            if (outcome == WAITS) {
-                // Only a file that is made is waited for, so there is a maker.
-                int maker = files[actions[current].waitsFor].maker;
+            int maker = awaitedMaker(actions[current]);
+            if (isAction(maker)) {
                 if (tellRing(maker, depth)) {
                     return IN_A_RING;
                 }
@@ -368,6 +367,11 @@ public final class DynamicNeeds {
 
     private static boolean hasBit(int bits, int number) {
         return ((bits >>> number) & 1) != 0;
+    }
+
+    /** NONE if the latest run doesn't wait; only a file that is made is waited for. */
+    private int awaitedMaker(Action action) {
+        return isFile(action.waitsFor) ? files[action.waitsFor].maker : NONE;
     }
 
     /** Whether the maker is on the way already, so that the way from it on is a ring. */
